@@ -65,7 +65,7 @@ public final class DraftTree {
             throw new IllegalStateException();
         }
         if (from < to || slipSize > 0) {
-            putSlipBetween(from, to, slipSize);
+            exchange(from, to, slipSize);
             slipSize = 0;
         }
         return present;
@@ -83,7 +83,7 @@ public final class DraftTree {
             if (stateCount == STATE_LIMIT) {
                 throw new IllegalStateException();
             }
-            putSlipBetween(from, to, 0);
+            exchange(from, to, 0);
         }
         return to - from;
     }
@@ -255,8 +255,8 @@ public final class DraftTree {
         moveTo(number);
     }
 
-    /** An edit that puts the first characters of the slip in the place of what lies between two places. */
-    private void putSlipBetween(int from, int to, int used) {
+    /** An edit that puts so many characters of the slip in the place of what lies between two places. */
+    private void exchange(int from, int to, int used) {
         char[] made = new char[text.length - (to - from) + used];
         System.arraycopy(text, 0, made, 0, from);
         System.arraycopy(slip, 0, made, from, used);
@@ -595,13 +595,17 @@ public final class DraftTree {
                     addNodeAsPart(Automaton.LINE_END);
                     break;
                 case '.':
-                    int any = addNodeAsPart(Automaton.CONSUME);
-                    made.takeCodes(any, BREAK, BREAK);
-                    made.takeOtherCodes(any);
+                    readDot();
                     break;
                 default:
                     readLiteral(c);
             }
+        }
+
+        private void readDot() {
+            int node = addNodeAsPart(Automaton.CONSUME);
+            made.takeCodes(node, BREAK, BREAK);
+            made.takeOtherCodes(node);
         }
 
         private void readLiteral(char c) {

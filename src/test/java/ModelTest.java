@@ -11,10 +11,13 @@ final class ModelTest {
         "a+b", "(a|b)*c", "^a|b$", "[^a\n]", "[a-c]+", "(^|a)b?", ".*$", "a*?b", "((a?)*b)+", "\n^", "(a|ab)(c|bcd)?", "."
     };
 
+    /** Whether every typed row is inserted at once, so that the limits of text and states are met. */
+    private final boolean hasty;
     private long seed;
 
-    private ModelTest(long seed) {
-        this.seed = seed * 7919 + 17;
+    private ModelTest(int run) {
+        hasty = run % 2 == 0;
+        seed = run * 7919L + 17;
     }
 
     public static void main(String[] args) {
@@ -36,7 +39,11 @@ final class ModelTest {
     private int step(DraftTree x, Model due, String name) {
         int kind = below(22);
         if (kind < 4) {
-            return typeRow(x, due, name, row(TEXTS, below(9)));
+            int calls = typeRow(x, due, name, row(TEXTS, below(hasty ? 16 : 9)));
+            if (hasty) {
+                both(x, due, name + "insert", x::insert, due::insert);
+            }
+            return calls + 1;
         }
         if (kind < 7) {
             String pattern = below(2) == 0 ? GOOD[below(GOOD.length)] : row(PATTERNS, below(12));

@@ -5,43 +5,54 @@ final class GrammarTest {
 
     public static void main(String[] args) {
         allUpTo(4);
+        setsUpTo(5);
         longOnes();
+        deepOnes();
         Check.end();
     }
 
     private static void allUpTo(int size) {
-        DraftTree x = Check.withText(TEXT);
-        String signs = SIGNS.substring(0, 13);
+        all(SIGNS.substring(0, 13), size, "", "");
+    }
+
+    private static void setsUpTo(int size) {
+        all("-ab^(", size, "[", "]");
+        all("-ab^", size, "[^", "]");
+    }
+
+    private static void all(String signs, int size, String before, String behind) {
         int count = 1;
         for (int s = 0; s <= size; s++) {
             for (int number = 0; number < count; number++) {
-                StringBuilder pattern = new StringBuilder();
+                StringBuilder pattern = new StringBuilder(before);
                 for (int k = 0, left = number; k < s; k++, left /= signs.length()) {
                     pattern.append(signs.charAt(left % signs.length()));
                 }
-                compare(x, pattern.toString());
+                compare(pattern.append(behind).toString());
             }
             count *= signs.length();
         }
     }
 
     private static void longOnes() {
-        DraftTree x = Check.withText(TEXT);
-        long seed = 4711;
+        Dice dice = new Dice(4711);
         for (int turn = 0; turn < 6000; turn++) {
-            StringBuilder pattern = new StringBuilder();
-            for (int k = 0; k < 5 + turn % 20; k++) {
-                seed = seed * 6364136223846793005L + 1442695040888963407L;
-                pattern.append(SIGNS.charAt((int) ((seed >>> 33) % SIGNS.length())));
-            }
-            compare(x, pattern.toString());
+            compare(dice.row(SIGNS, 5 + turn % 20));
         }
     }
 
-    private static void compare(DraftTree x, String pattern) {
+    /** Groups in one another, round about the eight that there may be. */
+    private static void deepOnes() {
+        Dice dice = new Dice(815);
+        for (int turn = 0; turn < 400; turn++) {
+            String pattern = "(".repeat(6) + dice.row("((()a|", 3 + turn % 8) + ")".repeat(turn % 11);
+            compare(pattern.substring(0, Math.min(24, pattern.length())));
+        }
+    }
+
+    private static void compare(String pattern) {
         Grammar.Fit due = Grammar.pattern(pattern);
-        x.wipe();
-        Check.type(x, pattern);
+        DraftTree x = new Run().text(TEXT).type(pattern).make();
         boolean read = true;
         try {
             x.compile();
@@ -72,7 +83,7 @@ final class GrammarTest {
     private static String match(DraftTree x, int place) {
         try {
             int start = x.find(place);
-            return start + " to " + Check.cursor(x);
+            return start + " to " + x.figure(2);
         } catch (java.util.NoSuchElementException e) {
             return "none";
         }

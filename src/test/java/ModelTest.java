@@ -1,9 +1,12 @@
 import java.util.function.Supplier;
 
-/** All promises: long mixed runs, every answer and all that can be seen compared with the model's. */
+/**
+ * All promises: mixed runs, every answer compared with the model's. No object is used for more than 512
+ * calls, so a run is of any length up to 280, and the rest is used to look at one side of the object.
+ */
 final class ModelTest {
-    private static final int RUNS = 400;
-    private static final int CALLS = 512;
+    private static final int RUNS = 4000;
+    private static final int LONGEST = 280;
     private static final String TEXTS = "aaabbbc\n-] x";
     private static final String PATTERNS = "aaabbc.^$|*+?()()[]-\\\n";
     private static final int[] EXTREMES = {Integer.MIN_VALUE, Integer.MAX_VALUE, -2, 161};
@@ -11,94 +14,147 @@ final class ModelTest {
         "a+b", "(a|b)*c", "^a|b$", "[^a\n]", "[a-c]+", "(^|a)b?", ".*$", "a*?b", "((a?)*b)+", "\n^", "(a|ab)(c|bcd)?", "."
     };
 
-    /** Whether every typed row is inserted at once, so that the limits of text and states are met. */
-    private final boolean hasty;
-    private long seed;
+    private final Dice dice;
+    private final int run;
+    private final DraftTree x = new DraftTree();
+    private final Model due = new Model();
+    private int calls;
 
     private ModelTest(int run) {
-        hasty = run % 2 == 0;
-        seed = run * 7919L + 17;
+        this.run = run;
+        dice = new Dice(run * 7919L + 17);
     }
 
     public static void main(String[] args) {
         for (int run = 1; run <= RUNS; run++) {
-            new ModelTest(run).compare(run);
+            new ModelTest(run).compare();
         }
         Check.end();
     }
 
-    private void compare(int run) {
-        DraftTree x = new DraftTree();
-        Model due = new Model();
-        int calls = 0;
-        while (calls < CALLS) {
-            calls += step(x, due, "run " + run + ", call " + calls + ": ");
+    private void compare() {
+        int size = LONGEST - dice.below(run % 4 == 0 ? LONGEST : 100);
+        while (calls < size) {
+            step();
+        }
+        switch (run % 4) {
+            case 0 -> lookAtText();
+            case 1 -> lookAtStates();
+            case 2 -> lookAtWays();
+            default -> lookAtMatches();
         }
     }
 
-    private int step(DraftTree x, Model due, String name) {
-        int kind = below(22);
+    private void step() {
+        int kind = dice.below(22);
+        // Some runs make states quickly, and some long texts, so that the limits of both are met.
         if (kind < 4) {
-            int calls = typeRow(x, due, name, row(TEXTS, below(hasty ? 16 : 9)));
-            if (hasty) {
-                both(x, due, name + "insert", x::insert, due::insert);
+            typeRow(dice.row(TEXTS, run % 3 == 0 ? 24 : run % 3 == 1 ? 1 : dice.below(9)));
+            if (run % 3 != 2) {
+                both("insert", x::insert, due::insert);
             }
-            return calls + 1;
+        } else if (kind < 7) {
+            typeRow(dice.below(2) == 0 ? GOOD[dice.below(GOOD.length)] : dice.row(PATTERNS, dice.below(12)));
+            both("compile", () -> done(x::compile), () -> done(due::compile));
+        } else {
+            oneCall(kind);
         }
-        if (kind < 7) {
-            String pattern = below(2) == 0 ? GOOD[below(GOOD.length)] : row(PATTERNS, below(12));
-            int calls = typeRow(x, due, name, pattern);
-            both(x, due, name + "compile", () -> done(x::compile), () -> done(due::compile));
-            return calls + 1;
-        }
-        oneCall(x, due, name, kind);
-        return 1;
     }
 
-    private void oneCall(DraftTree x, Model due, String name, int kind) {
-        int place = number(x.length() + 1);
-        int state = number(x.figure(1));
-        boolean keep = below(2) == 0;
+    private void oneCall(int kind) {
+        int place = number(due.length() + 1);
+        int state = number(due.figure(1));
+        boolean keep = dice.below(2) == 0;
         int few = number(7) - 3;
         switch (kind) {
-            case 7, 8 -> both(x, due, name + "insert", x::insert, due::insert);
-            case 9 -> both(x, due, name + "erase " + few, () -> x.erase(few), () -> due.erase(few));
-            case 10, 11, 12 -> both(x, due, name + "go " + place + keep,
+            case 7, 8 -> both("insert", x::insert, due::insert);
+            case 9 -> both("erase " + few, () -> x.erase(few), () -> due.erase(few));
+            case 10, 11, 12 -> both("go " + place + keep,
                 () -> done(() -> x.go(place, keep)), () -> done(() -> due.go(place, keep)));
-            case 13, 14, 15 -> both(x, due, name + "find " + place, () -> x.find(place), () -> due.find(place));
-            case 16 -> both(x, due, name + "replace", x::replace, due::replace);
-            case 17 -> both(x, due, name + "undo", x::undo, due::undo);
-            case 18 -> both(x, due, name + "redo", x::redo, due::redo);
-            case 19 -> both(x, due, name + "jump " + state,
-                () -> done(() -> x.jump(state)), () -> done(() -> due.jump(state)));
-            case 20 -> both(x, due, name + "wipe", x::wipe, due::wipe);
-            default -> ask(x, due, name, place, state);
+            case 13, 14, 15 -> both("find " + place, () -> x.find(place), () -> due.find(place));
+            case 16 -> both("replace", x::replace, due::replace);
+            case 17 -> both("undo", x::undo, due::undo);
+            case 18 -> both("redo", x::redo, due::redo);
+            case 19 -> jump(state);
+            case 20 -> both("wipe", x::wipe, due::wipe);
+            default -> ask(place, state);
         }
     }
 
-    private void ask(DraftTree x, Model due, String name, int place, int state) {
+    private void ask(int place, int state) {
         int what = number(4);
         int line = number(4);
-        int k = number(5);
-        both(x, due, name + "at " + place, () -> x.at(place), () -> due.at(place));
-        both(x, due, name + "line " + what, () -> x.line(what, line), () -> due.line(what, line));
-        both(x, due, name + "line 1 " + place, () -> x.line(1, place), () -> due.line(1, place));
-        both(x, due, name + "figure " + k, () -> x.figure(k), () -> due.figure(k));
-        both(x, due, name + "parent " + state, () -> x.parent(state), () -> due.parent(state));
+        both("at " + place, () -> x.at(place), () -> due.at(place));
+        both("line " + what + " " + line, () -> x.line(what, line), () -> due.line(what, line));
+        both("line 1 " + place, () -> x.line(1, place), () -> due.line(1, place));
+        both("parent " + state, () -> x.parent(state), () -> due.parent(state));
+        figure(number(5));
     }
 
-    private int typeRow(DraftTree x, Model due, String name, String row) {
+    private void lookAtText() {
+        int length = due.length();
+        both("length", x::length, due::length);
+        for (int k = 0; k < length; k++) {
+            int p = k;
+            both("at " + p, () -> x.at(p), () -> due.at(p));
+        }
+        for (int k = 0; k < 5; k++) {
+            figure(k);
+        }
+    }
+
+    private void lookAtStates() {
+        int count = due.figure(1);
+        for (int k = 0; k < count; k++) {
+            int state = k;
+            both("parent " + state, () -> x.parent(state), () -> due.parent(state));
+            jump(state);
+            both("length", x::length, due::length);
+            figure(2);
+            both("at 0", () -> x.at(0), () -> due.at(0));
+        }
+    }
+
+    private void lookAtWays() {
+        int count = due.figure(1);
+        for (int state = 0; state < count; state++) {
+            jump(state);
+            both("redo", x::redo, due::redo);
+            figure(2);
+        }
+    }
+
+    private void lookAtMatches() {
+        int length = Math.min(100, due.length());
+        for (int k = 0; k < length; k++) {
+            int place = k;
+            both("find " + place, () -> x.find(place), () -> due.find(place));
+            figure(2);
+        }
+    }
+
+    private void jump(int state) {
+        both("jump " + state, () -> done(() -> x.jump(state)), () -> done(() -> due.jump(state)));
+    }
+
+    private void figure(int k) {
+        both("figure " + k, () -> x.figure(k), () -> due.figure(k));
+    }
+
+    private void typeRow(String row) {
         for (int i = 0; i < row.length(); i++) {
             char c = row.charAt(i);
-            both(x, due, name + "type " + (int) c, () -> x.type(c), () -> due.type(c));
+            both("type " + (int) c, () -> x.type(c), () -> due.type(c));
         }
-        return row.length();
     }
 
-    private static void both(DraftTree x, Model due, String name, Supplier<Object> got, Supplier<Object> wanted) {
-        Check.same(name, answer(got), answer(wanted));
-        Check.same(name + ", seen", Check.seen(x), due.seen());
-        Check.same(name + ", fault", x.fault(), due.fault());
+    private void both(String name, Supplier<Object> got, Supplier<Object> wanted) {
+        calls++;
+        Check.same("run " + run + ", call " + calls + ": " + name, answer(got), answer(wanted));
+        if (name.equals("compile")) {
+            calls++;
+            Check.same("run " + run + ", call " + calls + ": fault", x.fault(), due.fault());
+        }
     }
 
     private static Object answer(Supplier<Object> call) {
@@ -116,23 +172,10 @@ final class ModelTest {
 
     /** Mostly from 0 on and below the limit, now and then just beyond it or far away. */
     private int number(int limit) {
-        int kind = below(20);
+        int kind = dice.below(20);
         if (kind == 0) {
-            return EXTREMES[below(EXTREMES.length)];
+            return EXTREMES[dice.below(EXTREMES.length)];
         }
-        return kind == 1 ? limit : kind == 2 ? -1 : below(limit);
-    }
-
-    private String row(String characters, int size) {
-        StringBuilder made = new StringBuilder();
-        for (int i = 0; i < size; i++) {
-            made.append(characters.charAt(below(characters.length())));
-        }
-        return made.toString();
-    }
-
-    private int below(int limit) {
-        seed = seed * 6364136223846793005L + 1442695040888963407L;
-        return (int) ((seed >>> 33) % limit);
+        return kind == 1 ? limit : kind == 2 ? -1 : dice.below(limit);
     }
 }

@@ -1,82 +1,154 @@
 /** Promises 14 to 17: length, at, line, figure. */
 final class ReadingTest {
-    private static final int[] WRONG_NUMBERS = {-1, Integer.MIN_VALUE, Integer.MAX_VALUE};
+    private static final int[] FAR_NUMBERS = {-1, -2, Integer.MIN_VALUE, Integer.MAX_VALUE};
 
     public static void main(String[] args) {
-        lengthAndAt();
+        lengths();
+        firstAndLastCharacter();
+        noSuchCharacter();
         lines("", 0);
         lines("abc", 0);
         lines("\n", 0, 1);
+        lines("a\n", 0, 2);
+        lines("\na", 0, 1);
         lines("ab\n\ncde\n", 0, 3, 4, 8);
         lines("\n\nx", 0, 1, 2);
+        manyLines();
+        noSuchLine();
+        noSuchQuestion();
+        theExceptionNamedFirst();
         figures();
+        noSuchFigure();
         Check.end();
     }
 
-    private static void lengthAndAt() {
-        DraftTree x = new DraftTree();
-        Check.same("length of an empty text", x.length(), 0);
-        Check.refused(x, "at 0 of an empty text", Check.BOUNDS, () -> x.at(0));
-        DraftTree y = Check.withText("a\n~");
-        Check.type(y, "xy");
-        Check.same("length does not count the slip", y.length(), 3);
-        Check.same("at 0", y.at(0), 'a');
-        Check.same("at 1", y.at(1), '\n');
-        Check.same("at 2", y.at(2), '~');
-        Check.refused(y, "at the end", Check.BOUNDS, () -> y.at(3));
-        for (int p : WRONG_NUMBERS) {
-            Check.refused(y, "at " + p, Check.BOUNDS, () -> y.at(p));
+    private static void lengths() {
+        new Run().length().answers(0).changesNothing();
+        new Run().type("abc").length().answers(0);
+        new Run().text("a").length().answers(1).changesNothing();
+        new Run().text("abc").type("xy").length().answers(3);
+        new Run().text("abc").undo().length().answers(0);
+        new Run().text("abc").erase(-1).length().answers(2);
+        new Run().text("z".repeat(159)).length().answers(159);
+        new Run().text("z".repeat(160)).length().answers(160);
+    }
+
+    private static void firstAndLastCharacter() {
+        Run run = new Run().text("a\n~").type("xy");
+        run.at(0).answers('a').changesNothing();
+        run.at(1).answers('\n');
+        run.at(2).answers('~');
+        new Run().text(" ").at(0).answers(' ');
+        new Run().text("a".repeat(159) + "b").at(159).answers('b');
+        new Run().text("abc").text("d").undo().at(2).answers('c');
+        new Run().text("abc").go(0).text("d").at(0).answers('d');
+    }
+
+    private static void noSuchCharacter() {
+        Run run = new Run().text("a\n~").type("xy");
+        run.at(3).refused(Check.BOUNDS);
+        for (int p : FAR_NUMBERS) {
+            run.at(p).refused(Check.BOUNDS);
+            new Run().at(p).refused(Check.BOUNDS);
         }
-        Check.same("length of a full text", Check.withText(Check.times("z", 160)).length(), 160);
+        new Run().at(0).refused(Check.BOUNDS);
+        new Run().type("a").at(0).refused(Check.BOUNDS);
+        new Run().text("abc").undo().at(0).refused(Check.BOUNDS);
+        new Run().text("abc").text("d").undo().at(3).refused(Check.BOUNDS);
+        new Run().text("a".repeat(160)).at(160).refused(Check.BOUNDS);
     }
 
     private static void lines(String text, int... begins) {
-        DraftTree x = Check.withText(text);
-        Check.same("number of lines", x.line(0, 0), begins.length);
-        Check.same("number of lines, any p", x.line(0, -7), begins.length);
+        Run run = new Run().text(text).type("\n");
         String[] parts = text.split("\n", -1);
+        run.line(0, 0).answers(begins.length).changesNothing();
         for (int k = 0; k < begins.length; k++) {
-            Check.same("begin of line " + k, x.line(2, k), begins[k]);
-            Check.same("size of line " + k, x.line(3, k), parts[k].length());
+            run.line(2, k).answers(begins[k]);
+            run.line(3, k).answers(parts[k].length());
         }
         for (int p = 0; p <= text.length(); p++) {
-            int due = text.substring(0, p).split("\n", -1).length - 1;
-            Check.same("line of place " + p, x.line(1, p), due);
+            run.line(1, p).answers(text.substring(0, p).split("\n", -1).length - 1);
         }
-        refusedLines(x, text.length() + 1, begins.length);
+        run.line(1, text.length() + 1).refused(Check.BOUNDS);
+        run.line(2, begins.length).refused(Check.BOUNDS);
+        run.line(3, begins.length).refused(Check.BOUNDS);
+        // There is no p to ask about where the number of lines is asked for.
+        for (int p : FAR_NUMBERS) {
+            run.line(0, p).answers(begins.length);
+        }
     }
 
-    private static void refusedLines(DraftTree x, int noPlace, int noLine) {
-        Check.refused(x, "line of no place", Check.BOUNDS, () -> x.line(1, noPlace));
-        Check.refused(x, "begin of no line", Check.BOUNDS, () -> x.line(2, noLine));
-        Check.refused(x, "size of no line", Check.BOUNDS, () -> x.line(3, noLine));
-        for (int p : WRONG_NUMBERS) {
-            for (int what = 1; what <= 3; what++) {
-                int asked = what;
-                Check.refused(x, "line " + what + " of " + p, Check.BOUNDS, () -> x.line(asked, p));
+    private static void manyLines() {
+        Run breaks = new Run().text("\n".repeat(160));
+        breaks.line(0, 0).answers(161);
+        breaks.line(1, 160).answers(160);
+        breaks.line(1, 161).refused(Check.BOUNDS);
+        breaks.line(2, 160).answers(160);
+        breaks.line(3, 160).answers(0);
+        breaks.line(2, 161).refused(Check.BOUNDS);
+        breaks.line(3, 161).refused(Check.BOUNDS);
+        Run one = new Run().text("a".repeat(160));
+        one.line(0, 0).answers(1);
+        one.line(3, 0).answers(160);
+        one.line(1, 160).answers(0);
+        one.line(2, 1).refused(Check.BOUNDS);
+    }
+
+    private static void noSuchLine() {
+        Run[] runs = {new Run(), new Run().text("ab\ncd").keep(1).type("x")};
+        for (Run run : runs) {
+            for (int p : FAR_NUMBERS) {
+                run.line(1, p).refused(Check.BOUNDS);
+                run.line(2, p).refused(Check.BOUNDS);
+                run.line(3, p).refused(Check.BOUNDS);
             }
-            Check.refused(x, "line, what " + p, Check.ARGUMENT, () -> x.line(p, 0));
-            Check.refused(x, "line, what " + p + " and no place", Check.ARGUMENT, () -> x.line(p, 999));
         }
-        Check.refused(x, "line, what 4", Check.ARGUMENT, () -> x.line(4, 999));
+        new Run().text("a\nb").undo().line(2, 1).refused(Check.BOUNDS);
+        new Run().text("a\nb").undo().line(1, 1).refused(Check.BOUNDS);
+    }
+
+    private static void noSuchQuestion() {
+        Run run = new Run().text("ab\ncd").keep(1).type("x");
+        run.line(0, 1).answers(2);
+        run.line(3, 1).answers(2);
+        run.line(4, 1).refused(Check.ARGUMENT);
+        for (int what : FAR_NUMBERS) {
+            run.line(what, 1).refused(Check.ARGUMENT);
+            new Run().line(what, 0).refused(Check.ARGUMENT);
+        }
+    }
+
+    private static void theExceptionNamedFirst() {
+        Run run = new Run().text("ab\ncd");
+        for (int p : FAR_NUMBERS) {
+            run.line(4, p).refused(Check.ARGUMENT);
+            run.line(-1, p).refused(Check.ARGUMENT);
+        }
+        run.line(4, 6).refused(Check.ARGUMENT);
     }
 
     private static void figures() {
-        DraftTree x = Check.withText("abcd");
-        Check.type(x, "xyz");
-        x.go(1, true);
+        Run run = new Run().text("abcd").type("xyz").keep(1);
         int[] due = {1, 2, 1, 4, 3};
-        for (int k = 0; k < due.length; k++) {
-            Check.same("figure " + k, x.figure(k), due[k]);
-        }
-        x.undo();
         int[] later = {0, 2, 0, -1, 3};
-        for (int k = 0; k < later.length; k++) {
-            Check.same("figure " + k + " after undo", x.figure(k), later[k]);
+        int[] first = {0, 1, 0, -1, 0};
+        for (int k = 0; k < due.length; k++) {
+            run.figure(k).answers(due[k]).changesNothing();
+            run.undo().figure(k).answers(later[k]);
+            new Run().figure(k).answers(first[k]);
         }
-        Check.refused(x, "figure 5", Check.ARGUMENT, () -> x.figure(5));
-        for (int k : WRONG_NUMBERS) {
-            Check.refused(x, "figure " + k, Check.ARGUMENT, () -> x.figure(k));
+        run.go(0).keep(4).figure(3).answers(0);
+        run.type("x".repeat(24)).figure(4).answers(24);
+        new Run().states(39).figure(1).answers(39);
+        new Run().states(40).figure(1).answers(40);
+        new Run().states(40).jump(3).figure(0).answers(3);
+    }
+
+    private static void noSuchFigure() {
+        Run run = new Run().text("abcd").type("xyz").keep(1);
+        run.figure(5).refused(Check.ARGUMENT);
+        for (int k : FAR_NUMBERS) {
+            run.figure(k).refused(Check.ARGUMENT);
         }
     }
 }

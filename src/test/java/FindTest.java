@@ -27,6 +27,7 @@ final class FindTest {
         {"ab", "^ab$", 0, 0, 2}, {"ab", "^ab$", 1, NO, NO}, {"ab", "^b", 1, NO, NO}, {"a^$", "\\^\\$", 0, 1, 3},
         {"ab\ncd", "^*b", 0, 1, 2}, {"ab\ncd", "^+b", 0, NO, NO}, {"ab\ncd", "^?b", 0, 1, 2}, {"ab\ncd", "(^|b)*", 0, 1, 2},
         {"bb", "(^b)+", 0, 0, 1}, {"b\nb", "(^b\n?)+", 0, 0, 3}, {"ab", "(a$|a)b", 0, 0, 2}, {"^a", "a|^", 0, 1, 2},
+        {"aab", "a^?b", 0, 1, 3}, {"aab", "a$?b", 0, 1, 3}, {"a\nb", "a$?\n^?b", 0, 0, 3}, {"aa", "a(^|$)a", 0, NO, NO},
         // Rows and choices.
         {"abc", "", 0, NO, NO}, {"abc", "()|x*", 0, NO, NO}, {"abc", "|b", 0, 1, 2}, {"abc", "b|", 0, 1, 2}, {"abc", "x||c", 0, 2, 3},
         {"abcd", "a(b|c|)(c|)d", 0, 0, 4}, {"ad", "a(b|c|)d", 0, 0, 2}, {"ab", "(|a)b", 0, 0, 2}, {"acbd", "ab|cd|bd", 0, 2, 4},
@@ -48,6 +49,8 @@ final class FindTest {
         for (Object[] row : MATCHES) {
             matching((String) row[0], (String) row[1], (Integer) row[2], (Integer) row[3], (Integer) row[4]);
         }
+        everyCharacter();
+        everyRange();
         theExceptionNamedFirst();
         firstAndLastPlace();
         emptyText();
@@ -64,6 +67,61 @@ final class FindTest {
             run.refused(Check.MISSING);
         } else {
             run.answers(i).sees(text, 1, 2, j, i, 0);
+        }
+    }
+
+    /** All characters, in the order of their codes. */
+    private static String alphabet() {
+        StringBuilder all = new StringBuilder("\n");
+        for (char c = 32; c <= 126; c++) {
+            all.append(c);
+        }
+        return all.toString();
+    }
+
+    private static void everyCharacter() {
+        Run run = new Run().text(alphabet());
+        for (int i = 0; i < 96; i++) {
+            char c = alphabet().charAt(i);
+            onlyAt(run.pattern("\\" + c), i);
+            if ("()[]|*+?.^$\\".indexOf(c) < 0) {
+                onlyAt(run.pattern("" + c), i);
+            }
+            if (c != ']' && c != '^') {
+                onlyAt(run.pattern("[" + c + "]"), i);
+            }
+            if (c != ']') {
+                runsTo(run.pattern("[^" + c + "]+"), i == 0 ? 1 : 0, i == 0 ? 96 : i);
+            }
+        }
+        runsTo(run.pattern(".+"), 1, 96);
+    }
+
+    private static void everyRange() {
+        Run run = new Run().text(alphabet());
+        for (int i = 0; i < 96; i++) {
+            char c = alphabet().charAt(i);
+            if (c == ']') {
+                continue;
+            }
+            runsTo(run.pattern("[\n-" + c + "]+"), 0, i + 1);
+            runsTo(run.pattern("[^" + c + "-~]+"), i == 0 ? NO : 0, i);
+            if (c != '^') {
+                runsTo(run.pattern("[" + c + "-~]+"), i, 96);
+            }
+        }
+    }
+
+    private static void onlyAt(Run run, int i) {
+        runsTo(run, i, i + 1);
+        run.find(i + 1).answers(Check.MISSING);
+    }
+
+    private static void runsTo(Run run, int i, int j) {
+        if (i == NO) {
+            run.find(0).answers(Check.MISSING);
+        } else {
+            run.find(0).answers(i).figure(2).answers(j);
         }
     }
 

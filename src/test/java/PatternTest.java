@@ -23,7 +23,9 @@ final class PatternTest {
         {"((((((((", 8}, {"(((((((((", 8}, {"(((((((((a)))))))))", 8}, {"()((((((((()))))))))", 10}, {"(a(b(c(d(e(f(g(h(i", 16},
         {"((((((((a)))))))))", 17}, {"(((((((()(()", 10}, {"[(]((((((((((", 11}, {"\\(((((((((((", 10},
         {"((((((((aaaaaaaaaaaaaaaa", 24}, {"[aaaaaaaaaaaaaaaaaaaaaaa", 24}, {"aaaaaaaaaaaaaaaaaaaaaaa\\", 24},
-        {"aaaaaaaaaaaaaaaaaaaaaaa)", 23}, {"aaaaaaaaaaaaaaaaaaaaaaa(", 24}, {"*aaaaaaaaaaaaaaaaaaaaaaa", 0}, {"a)*", 1}, {"*)", 0}
+        {"aaaaaaaaaaaaaaaaaaaaaaa)", 23}, {"aaaaaaaaaaaaaaaaaaaaaaa(", 24}, {"*aaaaaaaaaaaaaaaaaaaaaaa", 0}, {"a)*", 1}, {"*)", 0},
+        {"aaaaaaaaaaaaaaaaaaaaaaa[", 24}, {"aaaaaaaaaaaaaaaaaaaaaa[^", 24}, {"aaaaaaaaaaaaaaaaaaaaaa[a", 24},
+        {"aaaaaaaaaaaaaaaaaaaaa[a-", 24}, {"aaaaaaaaaaaaaaaaaaaa[a-z", 24}, {"aaaaaaaaaaaaaaaaaaaaaa[]", 23}
     };
 
     public static void main(String[] args) {
@@ -31,6 +33,8 @@ final class PatternTest {
         faults();
         theFormerPatternStays();
         theSlipStays();
+        onePatternAfterTheOther();
+        formerCharactersOfTheSlip();
         faultWithoutOne();
         faultOfTheLatest();
         faultOutlivesOtherCalls();
@@ -72,6 +76,31 @@ final class PatternTest {
         new Run().type("a)").compile().insert().sees("a)", 1, 2, 2, -1, 0);
         new Run().type("(").compile().type("a)").compile().answers("done").figure(4).answers(0);
         new Run().type("a)").compile().compile().refused(Check.ARGUMENT);
+    }
+
+    private static void onePatternAfterTheOther() {
+        Run run = new Run().text("ab12");
+        String[] patterns = {"a", "1", "b", "2", "[^a]", "(1|2)", "b", "[b-~]", "1*", "a?b"};
+        int[] starts = {0, 2, 1, 3, 1, 2, 1, 1, 2, 0};
+        int[] ends = {1, 3, 2, 4, 2, 3, 2, 2, 3, 2};
+        for (int k = 0; k < patterns.length; k++) {
+            run = run.pattern(patterns[k]).find(0).answers(starts[k]).sees("ab12", 1, 2, ends[k], starts[k], 0);
+            run = run.type("[1a]*[1a](").compile().wipe();
+        }
+    }
+
+    /** What was in the slip before it was made empty is no part of what is read. */
+    private static void formerCharactersOfTheSlip() {
+        String[][] rows = {{"[a]", "["}, {"[^a]", "["}, {"[^a]", "[^"}, {"[a-z]", "[a"}, {"[a-z]", "[a-"}, {"[a-z]", "[a-z"}};
+        for (String[] row : rows) {
+            Run run = new Run().type(row[0]).wipe().type(row[1]).compile().refusedButForFault(Check.ARGUMENT);
+            run.fault().answers(row[1].length());
+        }
+        new Run().type("\\a").wipe().type("\\").compile().refusedButForFault(Check.ARGUMENT).fault().answers(1);
+        new Run().type("(a)").wipe().type("(a").compile().refusedButForFault(Check.ARGUMENT).fault().answers(2);
+        new Run().type("a)").wipe().pattern("a").answers("done");
+        new Run().text("ab").type("b+").wipe().pattern("a").find(0).answers(0).figure(2).answers(1);
+        new Run().text("b").type("ab").wipe().pattern("").find(0).refused(Check.MISSING);
     }
 
     private static void faultWithoutOne() {
